@@ -37,14 +37,16 @@ public final class HiddenRuns {
     private final Learner learner;
 
     public HiddenRuns() {
-        now = new Model();
+        Model model = new Model();
+        Sums together = new Sums(model);
+        now = model;
         snapshot = new Model();
         history = new History();
         text = new SampleText();
-        sums = new Sums(now);
-        bestRun = new BestRun(now);
-        runOrder = new RunOrder(now);
-        learner = new Learner(now, sums);
+        sums = together;
+        bestRun = new BestRun(model);
+        runOrder = new RunOrder(model);
+        learner = new Learner(model, together);
     }
 
     // ---- weights, states
