@@ -173,6 +173,23 @@ public final class LearningAndStatesEdgesTest {
         dueLearnt(y, "60", "60/01", "600/111");
     }
 
+    // "until a round changes no weight": one that changes the first or the last one alone does
+    static void oneWeightAloneChanges() {
+        HiddenRuns x = Edges.model("1", "6", "600", "aa");
+        due("the first beginning", x.learn(20), 1);
+        Edges.dueWeights("learnt", x, "6", "6", "600");
+        HiddenRuns y = Edges.model("6", "6", "661", "abc");
+        due("the last sign", y.learn(20), 1);
+        Edges.dueWeights("learnt", y, "6", "6", "666");
+        HiddenRuns z = Edges.model("0006", "1111/1111/1111/0006", "111/111/111/001", "cc");
+        due("the last sign of the last state", z.learn(20), 1);
+        Edges.dueWeights("learnt", z, "0006", "1111/1111/1111/0006", "111/111/111/006");
+        HiddenRuns last = Edges.model("0006", "1111/1111/1111/0001", "111/111/111/006", "cc");
+        due("the last going on", last.learn(20), 1);
+        Edges.dueWeights("learnt", last, "0006", "1111/1111/1111/0006", "111/111/111/006");
+        due("nothing more", last.learn(20), NONE);
+    }
+
     // "Learns round by round, until a round changes no weight."
     static void roundsUntilNothingChanges() {
         String[] model = {"65", "22/24", "314/446", "baca;caba"};

@@ -513,6 +513,7 @@ public final class PromisesEdgesTest {
         due("all signs", y.count(3), 42);
         due("all doubtful", y.count(4), 42);
         due("none without total", y.count(5), 0);
+        due("all on the best run", y.count(6), 0);
         for (int state = 0; state < 4; state++) {
             y.setWeight(BEGIN, state, 0, 0);
         }
@@ -544,6 +545,22 @@ public final class PromisesEdgesTest {
         x.setWeight(SHOW, 1, 2, 1);
         // ac: 11 alone; ca: 10 (3), 11 (3): at the last place both are as likely
         due("best of them", x.count(6), 1);
+        // the second place alone would have a state 1
+        HiddenRuns y = Edges.model("11", "11/11", "010/110", "ca;cab");
+        due("no best run", y.best(0, 1), NONE);
+        due("none of them", y.count(6), 0);
+    }
+
+    static void placesOffABestRunOfWeightOne() {
+        // 00, 10 and 11
+        HiddenRuns x = Edges.model("11", "10/11", "111/111", "aa");
+        due("weight", x.ofSample(0, 2), 1);
+        due("first place", x.count(6), 1);
+        HiddenRuns y = Edges.model("11", "10/11", "111/111", "aaaaaaa");
+        // eight runs, 0000000 to 1111111: 7, 6 and 5 of them have a 1 at the first three places
+        due("likeliest at the third", y.likeliest(0, 2), 1);
+        due("as likely at the fourth", y.likeliest(0, 3), 0);
+        due("places", y.count(6), 3);
     }
 
     // "7 for the states in the history, 8 for the length of the text"

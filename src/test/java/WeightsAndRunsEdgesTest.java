@@ -225,6 +225,16 @@ public final class WeightsAndRunsEdgesTest {
         due("last of all", x.sign(5, 6), 0);
     }
 
+    static void aShorterSampleWhereALongerOneWas() {
+        HiddenRuns x = new HiddenRuns();
+        Edges.add(x, "a;b;c;a;b;ccccccc");
+        x.removeSample(5);
+        Edges.add(x, "b");
+        Edges.dueText("six", Edges.samples(x), "a;b;c;a;b;b");
+        due("no second sign", x.sign(5, 1), UNKNOWN);
+        due("total", x.ofSample(5, 0), 2);
+    }
+
     // "numbered from 0"
     static void theFirstAndTheLastSample() {
         HiddenRuns x = new HiddenRuns();
@@ -551,6 +561,13 @@ public final class WeightsAndRunsEdgesTest {
         due("share", x.share(1, 6, 0), 1000);
         due("other share", x.share(1, 6, 1), 0);
         due("no total", x.share(2, 0, 0), NONE);
+        due("likeliest", x.likeliest(1, 6), 0);
+        due("best", x.best(1, 6), 0);
+        due("no doubt", x.doubtful(1), 0);
+        HiddenRuns y = Edges.model("01", "00/01", "000/100", "a;aaaaaaa");
+        due("likeliest", y.likeliest(0, 0), 1);
+        due("likeliest", y.likeliest(1, 6), 1);
+        due("best", y.best(1, 0), 1);
     }
 
     // "A place is doubtful if no state there has a share that is at least the bound"
