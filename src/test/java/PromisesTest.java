@@ -794,6 +794,17 @@ public final class PromisesTest {
         due("counting is no act", x.count(7), 4);
     }
 
+    /** The example of README.md; its answers stand there. */
+    private static void exampleOfReadme() {
+        HiddenRuns x = withSamples("aab;abba");
+        set(x, SHOW, 0, 0, 5);
+        due("example best", x.best(0, 2), 0);
+        due("example share", x.share(0, 2, 1), 500);
+        due("example learn", x.learn(20), 9);
+        due("example undo", x.undo(), 2);
+        due("example weight", x.weight(SHOW, 0, 0, false), 5);
+    }
+
     public static void main(String[] args) {
         newObject();
         setWeights();
@@ -821,6 +832,7 @@ public final class PromisesTest {
         nextSigns();
         greatestNextSigns();
         counts();
+        exampleOfReadme();
         System.out.println(wrong == 0 ? "all promises are kept" : wrong + " answers are not as due");
         if (wrong != 0) {
             System.exit(1);
